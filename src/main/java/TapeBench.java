@@ -72,7 +72,7 @@ public final class TapeBench {
         if (row == null || n < 0 || n > MOST_SAMPLES) {
             return answer(BEYOND);
         }
-        history.keep(tape);
+        history.keep(tape, p);
         int before = row.length();
         row.restart(n);
         return before;
@@ -83,7 +83,7 @@ public final class TapeBench {
         if (row == null || !row.has(i) || !isSample(v)) {
             return answer(BEYOND);
         }
-        history.keep(tape);
+        history.keep(tape, p);
         int wasLost = row.at(i) == LOST ? 1 : 0;
         row.set(i, v);
         return wasLost;
@@ -94,7 +94,7 @@ public final class TapeBench {
         if (row == null || !holds(row.length(), from, n)) {
             return answer(BEYOND);
         }
-        history.keep(tape);
+        history.keep(tape, p);
         int lostBefore = row.lostOnes();
         for (int i = from; i < from + n; i++) {
             row.set(i, LOST);
@@ -199,7 +199,7 @@ public final class TapeBench {
         if (sheet.isMissing()) {
             return answer(MISSING);
         }
-        history.keep(tape);
+        history.keep(tape, p);
         row.empty();
         for (int i = 0; i < sheet.length(); i++) {
             row.add(sheet.asSample(i));
@@ -217,7 +217,7 @@ public final class TapeBench {
         if (place >= MOST_LAYERS) {
             return answer(FULL);
         }
-        history.keep(tape);
+        history.keep(tape, NOWHERE);
         tape.layers.insert(place, new Layer(kind, a, Layer.hasB(kind) ? b : 0, true));
         return place;
     }
@@ -227,7 +227,7 @@ public final class TapeBench {
         if (layer == null) {
             return answer(BEYOND);
         }
-        history.keep(tape);
+        history.keep(tape, NOWHERE);
         if (layer.on == on) {
             return 0;
         }
@@ -240,7 +240,7 @@ public final class TapeBench {
         if (layer == null || tape.layers.at(to) == null) {
             return answer(BEYOND);
         }
-        history.keep(tape);
+        history.keep(tape, NOWHERE);
         tape.layers.remove(place);
         tape.layers.insert(to, layer);
         return 1;
@@ -250,7 +250,7 @@ public final class TapeBench {
         if (tape.layers.at(place) == null) {
             return answer(BEYOND);
         }
-        history.keep(tape);
+        history.keep(tape, NOWHERE);
         tape.layers.remove(place);
         return tape.layers.inAll();
     }
@@ -334,7 +334,7 @@ public final class TapeBench {
         if (row == null || target == null) {
             return answer(BEYOND);
         }
-        history.keep(tape);
+        history.keep(tape, q);
         target.become(player.play(tape, row, NOWHERE));
         return target.length();
     }
@@ -392,7 +392,7 @@ public final class TapeBench {
         if (place < 0 || place > first.length()) {
             return answer(BEYOND);
         }
-        history.keep(tape);
+        history.keep(tape, r);
         // The target may be one of both sources, so it changes only when all is read.
         joined.empty();
         for (int i = 0; i < place; i++) {
@@ -412,7 +412,7 @@ public final class TapeBench {
         if (!isMark(mark) || row == null || (i != NOWHERE && !row.has(i))) {
             return answer(BEYOND);
         }
-        history.keep(tape);
+        history.keep(tape, NOWHERE);
         tape.markPasses[mark] = p;
         tape.markPlaces[mark] = i;
         return 1;
@@ -585,7 +585,7 @@ public final class TapeBench {
         }
     }
 
-    /** Never changed once made, so the tapes that the history keeps may share it. */
+    /** Never changed once made, so the steps that the history keeps may share it. */
     private static final class Layer {
         final int kind;
         final int a;
@@ -707,39 +707,57 @@ public final class TapeBench {
             }
             return marks;
         }
+    }
 
-        void become(Tape other) {
-            for (int p = 0; p < PASSES; p++) {
-                Row mine = rowAt(p);
-                Row theirs = other.rowAt(p);
-                if (mine != null && theirs != null) {
-                    mine.become(theirs);
-                }
+    /** What an act may change, as it was ahead of it: no act changes more passes than one. */
+    private static final class Step {
+        private final Row row = new Row();
+        private final Layers layers = new Layers();
+        private final int[] markPasses = new int[MARKS];
+        private final int[] markPlaces = new int[MARKS];
+        private int p = NOWHERE;
+
+        void keep(Tape tape, int pass) {
+            p = pass;
+            Row kept = tape.rowAt(p);
+            if (kept != null) {
+                row.become(kept);
             }
-            layers.become(other.layers);
-            System.arraycopy(other.markPasses, 0, markPasses, 0, MARKS);
-            System.arraycopy(other.markPlaces, 0, markPlaces, 0, MARKS);
+            layers.become(tape.layers);
+            System.arraycopy(tape.markPasses, 0, markPasses, 0, MARKS);
+            System.arraycopy(tape.markPlaces, 0, markPlaces, 0, MARKS);
+        }
+
+        void bringBack(Tape tape) {
+            Row changed = tape.rowAt(p);
+            if (changed != null) {
+                changed.become(row);
+            }
+            tape.layers.become(layers);
+            System.arraycopy(markPasses, 0, tape.markPasses, 0, MARKS);
+            System.arraycopy(markPlaces, 0, tape.markPlaces, 0, MARKS);
         }
     }
 
-    /** The tape as it was ahead of each of the latest acts; the oldest gives its room to the newest. */
+    /** The latest acts that can be undone; the oldest gives its room to the newest. */
     private static final class History {
-        private final Tape[] tapes = new Tape[MOST_ACTS];
+        private final Step[] steps = new Step[MOST_ACTS];
         private int next = 0;
         private int kept = 0;
 
         History() {
             for (int k = 0; k < MOST_ACTS; k++) {
-                tapes[k] = new Tape();
+                steps[k] = new Step();
             }
         }
 
-        void keep(Tape tape) {
-            Tape room = tapeAt(next);
-            if (room == null) {
+        /** Asked ahead of an act that changes a pass, or NOWHERE if it changes none. */
+        void keep(Tape tape, int pass) {
+            Step step = stepAt(next);
+            if (step == null) {
                 return;
             }
-            room.become(tape);
+            step.keep(tape, pass);
             next = (next + 1) % MOST_ACTS;
             kept = Math.min(kept + 1, MOST_ACTS);
         }
@@ -747,18 +765,18 @@ public final class TapeBench {
         /** How many more acts can be undone, or NONE if there was nothing to bring back. */
         int restore(Tape tape) {
             int latest = (next + MOST_ACTS - 1) % MOST_ACTS;
-            Tape before = tapeAt(latest);
-            if (kept == 0 || before == null) {
+            Step step = stepAt(latest);
+            if (kept == 0 || step == null) {
                 return NONE;
             }
-            tape.become(before);
+            step.bringBack(tape);
             next = latest;
             kept--;
             return kept;
         }
 
-        private Tape tapeAt(int k) {
-            return k >= 0 && k < tapes.length ? tapes[k] : null;
+        private Step stepAt(int k) {
+            return k >= 0 && k < steps.length ? steps[k] : null;
         }
     }
 

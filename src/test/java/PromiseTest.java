@@ -51,6 +51,7 @@ public final class PromiseTest {
         undo();
         undoOfEachAct();
         count();
+        everyFindingCounts();
         findingsChangeNothing();
         due.end();
     }
@@ -222,6 +223,7 @@ public final class PromiseTest {
         due.is("turn(4, 0)", x.turn(4, 0), BEYOND);
         due.is("turn(-1, -1)", x.turn(-1, -1), BEYOND);
         due.is("a first sample is no TURN", with(5, 6).turn(0, 0), NONE);
+        due.is("0 ahead is not below 0", with(0, 0, 6).about(0, 2), 0);
     }
 
     private static void sheet() {
@@ -602,6 +604,10 @@ public final class PromiseTest {
         x.turnOn(0, false);
         // By 0 alone it is ALIGNED by 0: each from the same place.
         isOutput(x, 0, 1, 20, 3, 3, 50, 50, 7, 7);
+        TapeBench ends = with(L, 20, 3, 40, 5, L);
+        set(ends, 1, 9, 20, 3, 40, 5, 8);
+        ends.layer(2, 1, 9);
+        isOutput(ends, 0, 9, 20, 3, 40, 5, 8);
         TapeBench few = with(1, 2, 3, L, L);
         set(few, 1, 1, 2, 3, 4, 5);
         few.layer(2, 1, 2);
@@ -1121,6 +1127,40 @@ public final class PromiseTest {
         due.is("a mark whose sample is gone is somewhere still", x.count(2), 2);
         x.undo();
         due.is("findings are not undone", x.count(3), 9);
+    }
+
+    private static void everyFindingCounts() {
+        due.part("Promise 30, each finding");
+        TapeBench x = with(1, L, 3);
+        x.sheet(0, 8, 1);
+        x.sheet(1, 16, 1);
+        for (int k = 0; k < 8; k++) {
+            x.layer(0, 100, 0);
+        }
+        long[] answers = {
+            x.pass(4, 0), x.put(0, 3, 0), x.lose(0, 3, 1), x.sample(0, 3), x.sample(0, 1), x.about(4, 0),
+            x.about(0, 4), x.turn(4, 0), x.turn(0, 0), x.sheet(4, 8, 1), x.sheet(0, 8, -1), x.sheet(0, 8, 121),
+            x.write(4, 0, 0), x.write(2, 0, 0), x.write(0, 1, 0), x.copy(4, 0, 0, 0, 0), x.copy(0, 0, 2, 0, 0),
+            x.copy(0, 0, 1, 0, 0), x.copy(0, 0, 0, 0, 2), x.lay(0, 4), x.lay(0, 2), x.layer(7, 0, 0),
+            x.layer(0, 0, 0), x.turnOn(8, true), x.move(8, 0), x.drop(8), x.told(8, 0), x.told(0, 4),
+            x.as(8, 0), x.as(0, 1), x.size(4), x.out(4, 0), x.out(0, 3), x.out(0, 1), x.heard(4, 0),
+            x.heard(0, 3), x.power(4), x.bake(4, 0), x.align(0, 4, 0), x.align(0, 0, 0), x.differ(0, 0, 10, true),
+            x.seam(0, 0, -1, 0), x.seam(0, 0, 1, 1), x.join(0, 0, 0, 4), x.join(0, 0, 4, 0), x.mark(6, 0, 0),
+            x.moment(6), x.moment(0), x.count(4)};
+        for (int k = 0; k < answers.length; k++) {
+            due.holds("answer " + k + " is a finding", answers[k] < -99999);
+        }
+        due.is("count(3)", x.count(3), answers.length);
+        due.is("layer", x.drop(7), 7);
+        x.layer(5, 0, 1);
+        x.mark(0, 0, 0);
+        due.is("GONE", x.moment(0), LOST);
+        due.is("count(3)", x.count(3), answers.length + 1);
+        for (int k = 0; k < 15; k++) {
+            x.undo();
+        }
+        due.is("undo", x.undo(), NONE);
+        due.is("count(3)", x.count(3), answers.length + 2);
     }
 
     private static void findingsChangeNothing() {
