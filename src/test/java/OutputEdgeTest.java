@@ -267,6 +267,8 @@ public final class OutputEdgeTest {
         made(4, 2, 0, -1, 1, 20, -30, -4, 5).isOutput(0, 1, -30, 5);
         made(4, 1, 0, -1, 1, 20, -30, -4, 5).isOutput(0, 1, 5);
         made(4, 2, 0, -1, 1, L, -30, -4, 5).isOutput(0, 1, -30, 5);
+        // TURNS 1 and 6 by 5: at a whole place its neighbours are not needed, LOST or not.
+        made(4, 5, 0, -1, 1, 20, L, 4, -5, 6).isOutput(0, 1, 20, L, 4, -5, 6);
     }
 
     private static void warpCutDown() {
