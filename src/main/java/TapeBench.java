@@ -490,7 +490,10 @@ public final class TapeBench {
             return i >= 0 && i < length && i < samples.length;
         }
 
-        /** What is not there counts as LOST: no layer and no comparison tells them apart. */
+        /**
+         * What is not there counts as LOST: no layer and no comparison tells them apart. It does not ask
+         * has, since it stands at the end of the longest chain of calls, and these may not go deeper.
+         */
         int at(int i) {
             return i >= 0 && i < length && i < samples.length ? samples[i] : LOST;
         }
@@ -621,7 +624,7 @@ public final class TapeBench {
         }
     }
 
-    /** The LAYERS in their order. */
+    /** Each step of the history holds such an order too, so it can become another one as a whole. */
     private static final class Layers {
         private final Layer[] order = new Layer[MOST_LAYERS];
         private int laid = 0;
@@ -833,7 +836,7 @@ public final class TapeBench {
         }
     }
 
-    /** Finds by what a row is ALIGNED to a pass. */
+    /** Sum and places are both found by one walk; they stay here, as a method answers only one. */
     private static final class Aligner {
         private int sum = 0;
         private int places = 0;

@@ -18,6 +18,7 @@ import java.util.Set;
 import java.util.TreeSet;
 import java.util.regex.Matcher;
 import java.util.regex.Pattern;
+import java.util.stream.Stream;
 
 /** The class has the document's face and no more, and keeps to what LANGUAGE.md says of its text. */
 public final class FaceTest {
@@ -38,6 +39,7 @@ public final class FaceTest {
         classesInside();
         words();
         imports();
+        shortMethods();
         room();
         madeByCalls();
         due.end();
@@ -125,6 +127,22 @@ public final class FaceTest {
         while (calls.find()) {
             due.holds(calls.group() + " may be called", fine.contains(calls.group()));
         }
+    }
+
+    /** A method's head and its last brace stand equally far from the left, and nothing between does. */
+    private static void shortMethods() throws IOException {
+        due.part("rule 11");
+        Matcher method = Pattern.compile("(?ms)^( {4}| {8})(?! )[^\n]*\\) \\{\n(.*?)^\\1\\}$")
+            .matcher(code());
+        int methods = 0;
+        while (method.find()) {
+            methods++;
+            long lines = method.group(2).lines().count() + 2;
+            due.holds(method.group().lines().findFirst().orElse("").strip() + " has at most sixty lines", lines <= 60);
+        }
+        long written = Stream.concat(Stream.of(TapeBench.class), Arrays.stream(TapeBench.class.getDeclaredClasses()))
+            .mapToLong(one -> one.getDeclaredMethods().length).sum();
+        due.holds("all of " + written + " methods were looked at, not " + methods, methods >= written);
     }
 
     private static void room() throws IllegalAccessException {
